@@ -648,7 +648,9 @@ public final class ReservoirWall {
         if (!between(plan, 0, Acts.PLANS - 1)) {
             return UNKNOWN;
         }
-        long end = acts.actOut(plan);
+        acts.begin();
+        long end = acts.doPlan(plan, 1);
+        acts.finish(end);
         int way = Acts.wayOf(end);
         if (way == Acts.DONE || way == Acts.ANSWERED) {
             return well(way == Acts.DONE ? 0 : 1);
@@ -1776,6 +1778,7 @@ public final class ReservoirWall {
         private final int[] putCell = new int[MOST_BEGUN];
         private final long[] putOver = new long[MOST_BEGUN];
         private int puts;
+        private long stockBefore;
 
         static int wayOf(long end) {
             return (int) (end >> 32);
@@ -1821,19 +1824,20 @@ public final class ReservoirWall {
             return (plan * MOST_STEPS + i) * STEP_SIZE;
         }
 
-        long actOut(int plan) {
+        void begin() {
             begun = 0;
             putBy = 0;
             puts = 0;
-            long stockBefore = stock;
-            long end = doPlan(plan, 1);
+            stockBefore = stock;
+        }
+
+        void finish(long end) {
             int way = wayOf(end);
             answer = way == ANSWERED ? numberOf(end) : 0;
             if (way != DONE && way != ANSWERED) {
                 stock = stockBefore;
                 giveBackCells();
             }
-            return end;
         }
 
         private void giveBackCells() {
@@ -1849,7 +1853,7 @@ public final class ReservoirWall {
             return between(number, 0, rows.size() - 1) ? rows.get(number) : null;
         }
 
-        private long doPlan(int plan, int deep) {
+        long doPlan(int plan, int deep) {
             if (deep > DEEPEST) {
                 return leave(WORD, TOO_DEEP);
             }
@@ -2558,12 +2562,14 @@ public final class ReservoirWall {
         }
 
         int byteAt(int page, int i) {
-            return reaches(page, i) ? bytes[page * PAGE_BYTES + i] & 0xFF : 0;
+            int at = page * PAGE_BYTES + i;
+            return at >= 0 && at < bytes.length ? bytes[at] & 0xFF : 0;
         }
 
         void setByte(int page, int i, int b) {
-            if (reaches(page, i)) {
-                bytes[page * PAGE_BYTES + i] = (byte) b;
+            int at = page * PAGE_BYTES + i;
+            if (at >= 0 && at < bytes.length) {
+                bytes[at] = (byte) b;
                 isRead = false;
             }
         }
