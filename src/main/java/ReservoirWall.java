@@ -1270,7 +1270,7 @@ public final class ReservoirWall {
         return beyond < 64 ? fraction >> beyond : 0L;
     }
 
-    /** Powers of two with an exponent that is one itself, 1 to 512. */
+    /** For 1, 2, 4 .. 512; written out, as no static array may hold doubles. */
     private static double twoToThe(int by) {
         switch (by) {
             case 512:
@@ -1761,7 +1761,7 @@ public final class ReservoirWall {
         static final int DONE = 0, ANSWERED = 9;
         private static final int STEP_SIZE = 5, MOST_BEGUN = 48, DEEPEST = 8, MOST_SIGNALS = 60, TOP_NOTCH = 100;
         private static final int PUT = 0, TAKE = 1, FAIL = 2, HOLD = 3, TURN = 4, SIGNAL = 5, DO = 6, TRY = 7, ANSWER = 8;
-        private static final int TOO_LITTLE = 1, BEYOND = 2, TOO_DEEP = 3;
+        private static final int TOO_LITTLE = 1, BEYOND = 2, TOO_FAR = 3;
 
         final ArrayList<Row> rows = new ArrayList<Row>();
         private final int[] steps = new int[PLANS * MOST_STEPS * STEP_SIZE];
@@ -1855,13 +1855,13 @@ public final class ReservoirWall {
 
         long doPlan(int plan, int deep) {
             if (deep > DEEPEST) {
-                return leave(WORD, TOO_DEEP);
+                return leave(WORD, TOO_FAR);
             }
             long end = leave(DONE, 0);
             int reached = 0;
             while (reached < stepCount[plan] && wayOf(end) == DONE) {
                 if (begun >= MOST_BEGUN) {
-                    end = leave(WORD, TOO_DEEP);
+                    end = leave(WORD, TOO_FAR);
                     break;
                 }
                 begun++;

@@ -26,8 +26,8 @@ public final class ActsTest {
         }
         int far = Integer.MAX_VALUE;
         int[][] fine = {{PUT, far, -far, far, far}, {TAKE, 0, far, far, far}, {TAKE, 1000000000, -far, far, far}, {FAIL, 1, 99, far, far},
-            {FAIL, 8, 0, far, far}, {HOLD, 3, far, far, far}, {TURN, 0, far, far, far}, {SIGNAL, far, far, far, far}, {DO, 11, far, far, far},
-            {TRY, 11, 9, -1, 11}, {ANSWER, -far, far, far, far}, {SUM, far, -far, far, far}};
+            {HOLD, 3, far, far, far}, {TURN, 0, far, far, far}, {SIGNAL, far, far, far, far}, {DO, 11, far, far, far},
+            {TRY, 11, 9, -1, 11}, {TRY, 0, 0, 11, -1}, {ANSWER, -far, far, far, far}, {SUM, far, -far, far, far}};
         for (int i = 0; i < fine.length; i++) {
             int[] s = fine[i];
             due.is("step " + java.util.Arrays.toString(s), x.step(1, s[0], s[1], s[2], s[3], s[4]), i + 1);

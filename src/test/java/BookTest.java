@@ -114,6 +114,11 @@ public final class BookTest {
         due.is("as the other", x.pageByte(31, 3), 0x34);
         due.is("as the other", x.pageByte(31, 31), 0);
         due.is("the other stays", x.pageByte(0, 3), 0x34);
+        due.is("twin back", x.twin(31, 30), 1);
+        due.is("as the other", x.pageByte(30, 3), 0x34);
+        due.is("tear the last page", x.tear(31, 0), 1);
+        due.is("gone", x.pageByte(31, 3), 0);
+        due.is("the other stays", x.pageByte(30, 3), 0x34);
     }
 
     private static void lost(ReservoirWall x, String when, int[]... want) {

@@ -95,6 +95,13 @@ public final class FloodsTest {
         due.real("the volume as it is now", x.routed(0, 0, 0), 200000.0 + 860000.0 - 0.5);
         due.real("regret", x.regret(0), 99999.5 * 99999.5 + 5.0);
         due.is("chosen of one", x.chosen(), 0);
+
+        x = new ReservoirWall();
+        x.hours(2);
+        ahead(x, 0, 0.0, 0.25);
+        x.release(0, bits(99999.5));
+        due.real("just above 0.0", x.routed(0, 0, 0), 0.5);
+        due.real("just below 0.0", x.routed(0, 0, 1), 0.0);
     }
 
     private static void peaksAndChances() {

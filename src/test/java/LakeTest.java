@@ -412,6 +412,12 @@ public final class LakeTest {
         due.real("empty", x.lake(VOLUME), 0.0);
         due.real("empty", x.lake(LEVEL), 0.0);
         due.real("nothing comes out", x.lake(OUT), 0.0);
+        for (int g = 0; g < 4; g++) {
+            x.hand(g, bits(0.0));
+        }
+        run(x, 2.0, 1.0);
+        due.real("just above 0.0", x.lake(VOLUME), 0.5);
+        due.real("no lack", x.lake(LACK), 0.0);
     }
 
     /** The root must be the nearest double for levels of every size. */

@@ -250,9 +250,10 @@ public final class ModelTest {
             Object got = m.invoke(x, arguments);
             Object want = same.invoke(y, arguments);
             told.add(m.getName() + Arrays.toString(arguments) + " = " + got);
-            if (!got.equals(want)) {
+            boolean raisedAlike = x.raised(0) == y.raised(0) && x.raised(1) == y.raised(1);
+            if (!got.equals(want) || !raisedAlike) {
                 told.forEach(System.out::println);
-                System.out.println("the model answers " + want);
+                System.out.println("the model answers " + want + (raisedAlike ? "" : ", and has raised another FAILURE or WORD"));
                 return -1;
             }
         }
@@ -260,11 +261,12 @@ public final class ModelTest {
     }
 
     public static void main(String[] args) throws Exception {
-        int runs = args.length > 0 ? Integer.parseInt(args[0]) : 300;
+        int runs = args.length > 0 ? Integer.parseInt(args[0]) : 800;
         long alike = 0;
         for (int part = 0; part <= PARTS.length; part++) {
+            // With what is asked behind each call that makes 510 calls of one object.
             for (int seed = 0; seed < runs; seed++) {
-                int calls = new ModelTest(seed * 31L + part).run(part == PARTS.length ? null : PARTS[part], 500);
+                int calls = new ModelTest(seed * 31L + part).run(part == PARTS.length ? null : PARTS[part], 170);
                 if (calls < 0) {
                     System.out.println("ModelTest: part " + part + ", seed " + seed);
                     System.exit(1);

@@ -249,6 +249,8 @@ public final class ThingsTest {
             due.is("the last named", x.box(8, what, sizes[what] - 1), 1);
         }
         due.is("refused changes nothing", x.isA(9, 0), 1);
+        due.is("taken of the last box", x.taken(9, 0), 1);
+        due.is("used of the last box", x.used(9), 1);
         due.is("isA unknown", x.isA(10, 14), UNKNOWN);
         due.is("isA outside", x.isA(0, 14), OUTSIDE);
         due.is("isA outside", x.isA(0, -1), OUTSIDE);
