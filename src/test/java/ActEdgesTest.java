@@ -374,6 +374,22 @@ public final class ActEdgesTest {
         due.is("STOCK as before the ACT", x.stock(0), 60);
     }
 
+    /** One PUT is given back, and those of an ACT before are not. */
+    private static void givesBackOwn() {
+        ReservoirWall x = wall(s(0, PUT, 0, 0, 1), s(0, PUT, 0, 1, 2), s(0, PUT, 0, 2, 3), s(1, PUT, 0, 1, 9), s(1, FAIL, 4), s(2, FAIL, 4));
+        x.row(1, 3);
+        acts("three PUTS", x, 0, 0, 0, 0, 3, 0);
+        due.is("one PUT and a FAILURE", x.act(1), FAILED - 4);
+        due.is("as before", x.get(0, 0) * 100 + x.get(0, 1) * 10 + x.get(0, 2), 123);
+        due.is("a FAILURE alone", x.act(2), FAILED - 4);
+        due.is("as before", x.get(0, 0) * 100 + x.get(0, 1) * 10 + x.get(0, 2), 123);
+        for (int i = 0; i < 3; i++) {
+            x.put(0, i, 7);
+        }
+        due.is("one PUT and a FAILURE", x.act(1), FAILED - 4);
+        due.is("as before", x.get(0, 0) * 100 + x.get(0, 1) * 10 + x.get(0, 2), 777);
+    }
+
     private static void givesBackAll() {
         // 44 PUTS into 22 cells, each twice.
         ReservoirWall x = new ReservoirWall();
@@ -555,6 +571,7 @@ public final class ActEdgesTest {
         answers();
         putBy();
         givesBack();
+        givesBackOwn();
         givesBackAll();
         signalsKept();
         depths();

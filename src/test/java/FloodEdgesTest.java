@@ -119,6 +119,10 @@ public final class FloodEdgesTest {
         due.real("a unit below", x.routed(0, 0, 0), 0.0);
         x.release(0, bits(-0.0));
         due.real("a RELEASE of -0.0", x.routed(0, 0, 2), 100005.0);
+        x.release(0, bits(Math.nextDown(100000.0)));
+        due.real("just above 0.0", x.routed(0, 0, 0), 100000.0 - Math.nextDown(100000.0));
+        x.release(0, bits(Math.nextUp(100000.0)));
+        due.real("just below 0.0", x.routed(0, 0, 0), 0.0);
         // From the left: v + inflow - x.
         x = with(0.1);
         x.release(0, bits(0.3));

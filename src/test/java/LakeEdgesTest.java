@@ -506,6 +506,59 @@ public final class LakeEdgesTest {
         }
     }
 
+    /** left / full just above 1.0 is 1.0, from an opening that RATE does not hold back. */
+    private static void targetsAboveOne() {
+        for (double wish : new double[] {Math.nextDown(1200.0), 1200.0, Math.nextUp(1200.0), 1200.0000000001, 1300.0}) {
+            ReservoirWall x = new ReservoirWall();
+            for (int gate = 0; gate < 4; gate++) {
+                x.hand(gate, bits(gate == 0 ? 0.5 : 0.0));
+            }
+            x.rate(bits(1.0));
+            x.rule(0, 0, 365, bits(0.0), bits(50.0), bits(wish));
+            x.word(bits(9.0));
+            x.run(0, 0);
+            x.hand(0, NO_NUMBER);
+            x.word(bits(9.0));
+            x.run(0, 0);
+            double target = wish / 1200.0 > 1.0 ? 1.0 : wish / 1200.0;
+            due.real("from 0.5 by a wish of " + wish, x.lake(OPENING), 0.5 + (target - 0.5));
+        }
+    }
+
+    /** Those that moved at fewer STEPS come first, of like ones by number: a wish of one GATE's full flow shows who is first. */
+    private static void orders() {
+        for (int first = 0; first < 4; first++) {
+            for (int second = 0; second < 4; second++) {
+                // HANDS move all but these two: once, or twice.
+                ReservoirWall x = new ReservoirWall();
+                x.rate(bits(1.0));
+                x.rule(0, 3, 3, bits(0.0), bits(50.0), bits(1500.0));
+                for (int step = 1; step <= 2; step++) {
+                    for (int gate = 0; gate < 4; gate++) {
+                        boolean moves = gate != first && (gate != second || step == 1);
+                        x.hand(gate, bits(moves ? (step == 1 ? 0.5 : 0.25) : gate == second && step == 2 && first != second ? 0.5 : 0.0));
+                    }
+                    x.word(bits(9.0));
+                    x.run(0, 0);
+                }
+                for (int gate = 0; gate < 4; gate++) {
+                    due.is("moved", x.moved(gate, 0), gate == first ? 0 : gate == second ? 1 : 2);
+                    x.hand(gate, NO_NUMBER);
+                }
+                x.word(bits(9.0));
+                x.run(0, 0);
+                // The first takes 1.0, the next one 0.25.
+                int next = second;
+                if (first == second) {
+                    next = first == 0 ? 1 : 0;
+                }
+                for (int gate = 0; gate < 4; gate++) {
+                    due.real("order " + first + ", " + next + ": opening " + gate, x.lake(OPENING + gate), gate == first ? 1.0 : gate == next ? 0.25 : 0.0);
+                }
+            }
+        }
+    }
+
     /** The opening is wish / (400.0 times the root of LEVEL TOLD), to the bit. */
     private static void roots() {
         double[] levels = {BIT, 2 * BIT, 3 * BIT, 1.0E-310, Math.nextDown(Double.MIN_NORMAL), Double.MIN_NORMAL, 1.0E-300, 1.0E-10, 0.25, 0.5, Math.nextDown(1.0), 1.0,
@@ -665,6 +718,22 @@ public final class LakeEdgesTest {
         x.run(bits(0.0), bits(-1.0));
         double little = 30.0 + 1.0 / 63000.0 - 30.0;
         due.real("a little SPILL", x.lake(SPILL), little * little * 150.0);
+        // The next VOLUME above T(30), and the next one below it.
+        for (double by : new double[] {-0x1p-32, 0.0, 0x1p-32}) {
+            double rain = 252500.0 + 2.0 * by;
+            double inflow = ((750000.0 + 500000.0) * 0.75 + rain) * 0.25;
+            x = shut();
+            x.run(bits(1000000.0), bits(1.0));
+            x.run(bits(500000.0), bits(1.0));
+            x.run(bits(rain), bits(1.0));
+            double near = 662500.0 - 0.0 + inflow;
+            due.real("near T(30)", x.lake(VOLUME), near);
+            due.is("on its side of T(30)", Double.compare(near, 960000.0), (int) Math.signum(by));
+            x.run(bits(0.0), bits(-1.0));
+            double above = level(near) - 30.0;
+            due.real("SPILL near T(30)", x.lake(SPILL), above > 0.0 ? above * above * 150.0 : 0.0);
+            due.is("any SPILL", real(x.lake(SPILL)) > 0.0 ? 1 : 0, by > 0.0 ? 1 : 0);
+        }
     }
 
     private static double spillAt(double volume) {
@@ -782,6 +851,8 @@ public final class LakeEdgesTest {
         voices();
         unheard();
         targets();
+        targetsAboveOne();
+        orders();
         roots();
         rates();
         stuckAndHands();
