@@ -376,7 +376,7 @@ public final class ActEdgesTest {
 
     /** One PUT is given back, and those of an ACT before are not. */
     private static void givesBackOwn() {
-        ReservoirWall x = wall(s(0, PUT, 0, 0, 1), s(0, PUT, 0, 1, 2), s(0, PUT, 0, 2, 3), s(1, PUT, 0, 1, 9), s(1, FAIL, 4), s(2, FAIL, 4));
+        ReservoirWall x = wall(s(0, PUT, 0, 0, 1), s(0, PUT, 0, 1, 2), s(0, PUT, 0, 2, 3), s(1, PUT, 0, 0, 9), s(1, FAIL, 4), s(2, FAIL, 4));
         x.row(1, 3);
         acts("three PUTS", x, 0, 0, 0, 0, 3, 0);
         due.is("one PUT and a FAILURE", x.act(1), FAILED - 4);

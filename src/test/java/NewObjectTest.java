@@ -45,6 +45,18 @@ public final class NewObjectTest {
         for (int what = 0; what < 3; what++) {
             due.is("lost", x.lost(what, -1), 0);
         }
+        for (int k = 0; k < 8; k++) {
+            due.is("no RELEASE", x.regret(k), ReservoirWall.UNKNOWN);
+        }
+        due.is("no RUN that does not lack", x.chance(0, 1), 0);
+        due.is("no RULE", x.ruleAt(0, 0), ReservoirWall.NONE);
+        due.is("no RIGHT", x.has(0), ReservoirWall.UNKNOWN);
+        due.is("no ROW OF THE BOOK", x.opened(0, 0), ReservoirWall.UNKNOWN);
+        due.is("no ROW", x.get(0, 0), ReservoirWall.UNKNOWN);
+        due.is("no BED", x.bare(0, -1), ReservoirWall.UNKNOWN);
+        due.is("no THING", x.says(0, 0), ReservoirWall.UNKNOWN);
+        due.is("no RACK", x.hung(0, 0), ReservoirWall.UNKNOWN);
+        due.is("no CARD", x.ring(0), ReservoirWall.UNKNOWN);
         due.is("close", x.close(), 0);
         due.is("part", x.part(5), 0);
         due.is("signal", x.signal(0), ReservoirWall.NONE);
@@ -55,6 +67,19 @@ public final class NewObjectTest {
         due.is("card", x.card(), 0);
         due.is("rule", x.rule(0, 0, 0, 0, 0, 0), 0);
         due.is("right", x.right(0, 0, 0), 0);
+        due.is("the first STEP", x.run(0, 0), 1);
+        due.is("no READING, no WORD was there", x.about(1), 1);
+        for (int g = 0; g < 6; g++) {
+            due.is("no READING", x.heard(g), 1);
+        }
+        due.real("nothing flows", x.lake(0), 100000.0);
+        due.is("the first BOOKING", x.book(0), 1);
+        // One object is not another: what was done to this one is not seen by a new one.
+        ReservoirWall y = new ReservoirWall();
+        for (int what = 0; what <= 10; what++) {
+            due.is("about(" + what + ") of another", y.about(what), 0);
+        }
+        due.is("pageByte of another", y.pageByte(0, 1), 0);
         due.end();
     }
 }
