@@ -1732,8 +1732,11 @@ public final class ReservoirWall {
 
         /** How many of n places came over ahead of the first that the target is not built for. */
         int moveTo(Rack target, int i, int k, int n) {
-            if (target == this) {
-                System.arraycopy(places, i, places, k, n);
+            // Towards the end of its own places, from the last on: none is written over ahead of its turn.
+            if (target == this && k > i) {
+                for (int at = n - 1; at >= 0; at--) {
+                    places[k + at] = places[i + at];
+                }
                 return n;
             }
             for (int at = 0; at < n; at++) {

@@ -161,6 +161,11 @@ public final class LanguageTest {
             return type != null && (type.getKind() == TypeKind.DOUBLE || type.getKind() == TypeKind.FLOAT);
         }
 
+        boolean isOfNumbers(Tree tree) {
+            TypeMirror type = trees.getTypeMirror(new com.sun.source.util.TreePath(getCurrentPath(), tree));
+            return type instanceof javax.lang.model.type.ArrayType array && array.getComponentType().getKind().isPrimitive();
+        }
+
         @Override
         public Void scan(Tree tree, Void none) {
             if (tree != null && NEVER.contains(tree.getKind())) {
@@ -219,6 +224,9 @@ public final class LanguageTest {
         @Override
         public Void visitMethodInvocation(MethodInvocationTree tree, Void none) {
             called((ExecutableElement) trees.getElement(getCurrentPath()), tree);
+            if (tree.getMethodSelect().toString().equals("System.arraycopy") && !isOfNumbers(tree.getArguments().get(0))) {
+                wrong("rule 4: objects are copied" + at(tree));
+            }
             return super.visitMethodInvocation(tree, none);
         }
 

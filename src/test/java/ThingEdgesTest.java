@@ -269,6 +269,27 @@ public final class ThingEdgesTest {
         x = at.does("haul: down on one RACK", 5, y -> y.haul(0, 1, 0, 0, 5));
         due.is("each what was there before", x.hung(0, 0) * 1000 + x.hung(0, 3) * 100 + x.hung(0, 4) * 10 + x.hung(0, 5), 1455);
         at.asks("haul: onto itself", 6, y -> y.haul(0, 0, 0, 0, 6));
+        for (int i = 0; i <= 6; i++) {
+            for (int k = 0; k <= 6; k++) {
+                for (int n = 0; n <= 6; n++) {
+                    hauledOnOneRack(i, k, n);
+                }
+            }
+        }
+    }
+
+    /** RACK 0 has THING g at place g. */
+    private static void hauledOnOneRack(int i, int k, int n) {
+        ReservoirWall x = new ReservoirWall();
+        UsedWall.build(x);
+        boolean fits = i + n <= 6 && k + n <= 6;
+        String call = "haul(0, " + i + ", 0, " + k + ", " + n + ")";
+        due.is(call, x.haul(0, i, 0, k, n), fits ? n : FAILED - INDEX);
+        due.is("raised(0) behind " + call, x.raised(0), fits ? 0 : INDEX);
+        due.is("raised(1) behind " + call, x.raised(1), 0);
+        for (int at = 0; at < 6; at++) {
+            due.is("place " + at + " behind " + call, x.hung(0, at), fits && at >= k && at < k + n ? at - k + i : at);
+        }
     }
 
     /** STORE on RACK 2: those ahead hang there; raised(1) tells how many. */
